@@ -17,11 +17,9 @@ public final class LandQuarters {
     private static final int FIRST_CODE = 33;
     private static final int LAST_CODE = 126;
 
-    private final Land land = new Land();
-    private final Survey survey = new Survey(land);
-
-    private final Land supposedLand = new Land();
-    private final Survey supposedSurvey = new Survey(supposedLand);
+    private final Survey survey = new Survey();
+    private final Land land = survey.land;
+    private final Survey supposed = new Survey();
 
     private final Land[] saved = new Land[MOST_SAVED];
     private int savedCount = 0;
@@ -328,10 +326,10 @@ public final class LandQuarters {
 
     public int plotsIfFlooded(int level) throws IllegalArgumentException {
         needLevel(level);
-        supposedLand.become(land);
-        supposedLand.drown(level);
-        supposedSurvey.measure();
-        return supposedSurvey.count();
+        supposed.land.become(land);
+        supposed.land.drown(level);
+        supposed.measure();
+        return supposed.count();
     }
 
     public int lossesIfTaxed(int person) throws IndexOutOfBoundsException {
@@ -484,20 +482,22 @@ public final class LandQuarters {
 
     /** Carries out the deed that was read, unless its method would throw; tells whether it did. */
     private boolean obeyDeed() {
-        switch (reader.kind) {
-            case 'g':
-                return obeyGrant(reader.x, reader.y, reader.size, reader.number);
-            case 'r':
-                return obeyRaise(reader.x, reader.y, reader.size, reader.signedNumber());
-            case 'b':
-                return obeySale(reader.number, survey.rankAt(reader.x, reader.y));
-            case 'f':
-                land.drown(reader.number);
-                return true;
-            default:
-                takeTaxes();
-                return true;
+        char kind = reader.kind;
+        if (kind == 'g') {
+            return obeyGrant(reader.x, reader.y, reader.size, reader.number);
         }
+        if (kind == 'r') {
+            return obeyRaise(reader.x, reader.y, reader.size, reader.signedNumber());
+        }
+        if (kind == 'b') {
+            return obeySale(reader.number, survey.rankAt(reader.x, reader.y));
+        }
+        if (kind == 'f') {
+            land.drown(reader.number);
+        } else {
+            takeTaxes();
+        }
+        return true;
     }
 
     private boolean obeyGrant(int x, int y, int size, int owner) {
@@ -739,9 +739,9 @@ public final class LandQuarters {
         }
     }
 
-    /** The plots of a land in their order, as they were when they were measured. */
+    /** A land, and its plots in their order, as they were when they were measured. */
     private static final class Survey {
-        private final Land land;
+        private final Land land = new Land();
         private final int[] ranks = new int[CELLS];
         private final int[] owners = new int[CELLS];
         private final int[] cornerXs = new int[CELLS];
@@ -749,8 +749,7 @@ public final class LandQuarters {
         private final int[] sizes = new int[CELLS];
         private int plotCount = 0;
 
-        Survey(Land land) {
-            this.land = land;
+        Survey() {
             measure();
         }
 
@@ -963,22 +962,16 @@ public final class LandQuarters {
         }
 
         private boolean acceptKind(char c) {
-            switch (c) {
-                case 'g':
-                case 'r':
-                    stage = AT_X;
-                    break;
-                case 'b':
-                    stage = AT_PERSON;
-                    break;
-                case 'f':
-                    stage = AT_NUMBER;
-                    break;
-                case 't':
-                    stage = AT_END;
-                    break;
-                default:
-                    return false;
+            if (c == 'g' || c == 'r') {
+                stage = AT_X;
+            } else if (c == 'b') {
+                stage = AT_PERSON;
+            } else if (c == 'f') {
+                stage = AT_NUMBER;
+            } else if (c == 't') {
+                stage = AT_END;
+            } else {
+                return false;
             }
             kind = c;
             return true;
