@@ -238,6 +238,8 @@ public final class PromisesTest {
         due("sales", 2, land.sales());
         due("savedStates", 4, land.savedStates());
         due("rest of the plot", 0, land.ownerAt(12, 8));
+        due("size of the rest", 4, land.plotSizeAt(15, 8));
+        due("size of the part that was sold", 4, land.plotSizeAt(11, 11));
         refused("several owners", land, STATE, () -> land.buySquare(3, 4, 4, 4));
         refused("one's own part", land, STATE, () -> land.buySquare(3, 8, 8, 2));
         refused("too dear", land, STATE, () -> land.buySquare(3, 8, 0, 8));
@@ -271,6 +273,7 @@ public final class PromisesTest {
         due("the chest", 7, land.coinsOf(0));
         due("savedStates", 3, land.savedStates());
         losses();
+        exactTax();
         LandQuarters grown = new LandQuarters();
         grown.setTax(9);
         for (int i = 0; i < 15; i++) {
@@ -285,6 +288,20 @@ public final class PromisesTest {
         due("plotsLost then", 15, grown.plotsLost());
         due("all common", 1, grown.plots());
         due("1 coin is left", 1, grown.coinsOf(1));
+    }
+
+    private static void exactTax() {
+        LandQuarters land = new LandQuarters();
+        land.setTax(5);
+        for (int i = 0; i < 20; i++) {
+            land.grant(i % 10, i / 10 * 3, 1, 4);
+        }
+        due("plotsOf", 20, land.plotsOf(4));
+        due("no loss for just enough coins", 0, land.lossesIfTaxed(4));
+        due("all coins", 100, land.collectTaxes());
+        due("plotsOf then", 20, land.plotsOf(4));
+        due("plotsLost", 0, land.plotsLost());
+        due("an empty purse", 0, land.coinsOf(4));
     }
 
     private static int largestCommon(LandQuarters land) {
@@ -371,6 +388,11 @@ public final class PromisesTest {
             due("firstError of " + text, text.length() - 1, errorOf(text));
             due("firstError of more than " + text, text.length() - 1, errorOf(text + ";t"));
         }
+        LandQuarters land = new LandQuarters();
+        write(land, "t;x");
+        write(land, "t");
+        due("no error of the text before", 1, land.firstError());
+        due("no deed of the text before", 1, land.carryOut());
     }
 
     private static void carryOut() {
@@ -820,6 +842,11 @@ public final class PromisesTest {
         land.grant(4, 4, 1, 2);
         land.grant(8, 8, 2, 2);
         due("the longest", 7, land.nearestNeighbour(2));
+        LandQuarters corner = new LandQuarters();
+        corner.grant(0, 0, 1, 1);
+        corner.grant(1, 0, 1, 3);
+        corner.grant(0, 1, 1, 2);
+        due("fences of the length 1", 2, corner.nearestNeighbour(1));
     }
 
     public static void main(String[] args) {
