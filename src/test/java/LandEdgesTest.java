@@ -314,6 +314,7 @@ public final class LandEdgesTest {
                 land.setPrice(price);
                 Checks.due("the first cell of a plot of size " + size + " for " + price, price * size * size, land.plotPriceAt(0, 0));
                 Checks.due("the last cell", price * size * size, land.plotPriceAt(size - 1, size - 1));
+                Checks.due("the last plot", price * (size == 16 ? 256 : 64), land.plotPriceAt(15, 15));
             }
         }
     }

@@ -172,6 +172,10 @@ public final class TextEdgesTest {
             Checks.due("coinsOf", 98, land.coinsOf(person));
             Checks.due("coinsOf the seller", 102, land.coinsOf(person % 7 + 1));
         }
+        LandQuarters mirrored = Checks.written("gjc1=1;gcj1=5;b5jc");
+        Checks.due("carryOut, x and y being told apart", 3, mirrored.carryOut());
+        Checks.due("ownerAt(9, 2)", 5, mirrored.ownerAt(9, 2));
+        Checks.due("ownerAt(2, 9)", 5, mirrored.ownerAt(2, 9));
         Checks.sentence("\"f\" and a digit from 1 to 9 (as flood())");
         for (int level = 1; level <= 9; level++) {
             LandQuarters land = new LandQuarters();

@@ -184,6 +184,16 @@ public final class TradeEdgesTest {
         Checks.refused("one's own plot, its last cell", Checks.QUARTERED, Checks.STATE, land -> land.buyPlot(4, 15, 15));
         LandQuarters next = Checks.quartered();
         Checks.due("the plot beside one's own", 64, next.buyPlot(1, 8, 0));
+        Checks.due("plotOwner of it", 1, next.plotOwner(1));
+        Checks.due("plotsOf", 2, next.plotsOf(1));
+        next.grant(0, 8, 8, 1);
+        next.grant(8, 8, 4, 1);
+        next.grant(12, 8, 4, 1);
+        next.grant(8, 12, 4, 1);
+        next.grant(12, 12, 4, 7);
+        Checks.due("a plot, all the others being one's own", 16, next.buyPlot(1, 15, 15));
+        Checks.due("all are one plot", 1, next.plots());
+        Checks.due("which has the last cell", 0, next.plotRankAt(15, 15));
     }
 
     private static void partsOfPlots() {

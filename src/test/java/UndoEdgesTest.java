@@ -356,7 +356,10 @@ public final class UndoEdgesTest {
         land.setTax(0);
         land.flood(10);
         land.buySquare(2, 0, 0, 1);
+        land.setTax(7);
+        land.grant(15, 15, 1, 1);
         land.collectTaxes();
+        Checks.due("sales, floods and plotsLost are others", 3 + 2 + 2, land.sales() + land.floods() + land.plotsLost());
         land.goBack(1);
         Checks.due("all accounts", accounts, Checks.accounts(land));
         LandQuarters want = Checks.worked();
@@ -368,6 +371,37 @@ public final class UndoEdgesTest {
         }
     }
 
+    /** Two lands side by side: what is saved, kept and written in one of them is nothing to the other. */
+    private static void twoLands() {
+        Checks.sentence("Creates a land that is common as a whole.");
+        LandQuarters one = new LandQuarters();
+        LandQuarters other = new LandQuarters();
+        one.setPrice(3);
+        other.setPrice(4);
+        one.keep(0);
+        Checks.due("goBack of the other", Checks.STATE, Checks.answer(other, land -> land.goBack(0)));
+        other.setPrice(5);
+        other.keep(0);
+        one.setTax(2);
+        one.goBack(0);
+        Checks.due("price of one", 3, one.price());
+        Checks.due("undo of the other", 1, other.undo());
+        Checks.due("price of the other", 4, other.price());
+        Checks.due("undo of one", 2, one.undo());
+        Checks.due("tax of one", 2, one.tax());
+        Checks.write(one, "gaa1=");
+        Checks.write(other, "f5;t;");
+        Checks.write(one, "3");
+        Checks.due("bufferLength of one", 6, one.bufferLength());
+        Checks.due("firstError of the other", 5, other.firstError());
+        Checks.due("carryOut of one", 1, one.carryOut());
+        Checks.due("owner in one", 3, one.ownerAt(0, 0));
+        Checks.due("owner in the other", 0, other.ownerAt(0, 0));
+        Checks.due("firstError of the other still", 5, other.firstError());
+        Checks.due("plotsIfFlooded in one", 1, one.plotsIfFlooded(10));
+        Checks.due("plots of one", 13, one.plots());
+    }
+
     /** All 512 calls of an object are as the first ones. */
     private static void allCallsOfAnObject() {
         Checks.sentence("An object is used for at most 512 calls after it has been made");
@@ -375,6 +409,21 @@ public final class UndoEdgesTest {
         for (int i = 1; i <= 512; i++) {
             Checks.due("setPrice, call " + i, priceAfter(i - 1), prices.setPrice(priceAfter(i)));
         }
+        LandQuarters lastUndone = new LandQuarters();
+        for (int i = 1; i <= 506; i++) {
+            lastUndone.setPrice(priceAfter(i));
+        }
+        for (int i = 507; i <= 512; i++) {
+            Checks.due("undo, call " + i, 512 - i, lastUndone.undo());
+        }
+        LandQuarters beforeThat = new LandQuarters();
+        for (int i = 1; i <= 505; i++) {
+            beforeThat.setPrice(priceAfter(i));
+        }
+        for (int i = 1; i <= 6; i++) {
+            beforeThat.undo();
+        }
+        Checks.due("price, call 512", priceAfter(499), beforeThat.price());
         LandQuarters grants = new LandQuarters();
         for (int i = 1; i <= 512; i++) {
             Checks.due("grant, call " + i, 256, grants.grant(0, 0, 16, i % 8));
@@ -411,6 +460,7 @@ public final class UndoEdgesTest {
         replacedSnapshots();
         snapshotsAreNoState();
         snapshotsHoldAll();
+        twoLands();
         allCallsOfAnObject();
         Checks.end();
     }
