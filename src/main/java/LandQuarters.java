@@ -123,7 +123,7 @@ public final class LandQuarters {
         if (code < FIRST_CODE || code > LAST_CODE) {
             throw new IllegalArgumentException("there is no such character");
         }
-        if (buffered >= MOST_CHARACTERS) {
+        if (buffered < 0 || buffered >= MOST_CHARACTERS) {
             throw new IllegalStateException("the buffer is full");
         }
         buffer[buffered] = (char) code;
@@ -785,7 +785,7 @@ public final class LandQuarters {
         }
 
         private void addPlot(int x, int y, int size) {
-            if (plotCount >= CELLS || !isSquare(x, y, size)) {
+            if (plotCount < 0 || plotCount >= CELLS || !isSquare(x, y, size)) {
                 return;
             }
             owners[plotCount] = land.ownerOf(x, y);
@@ -836,7 +836,7 @@ public final class LandQuarters {
 
         int countOf(int owner) {
             int owned = 0;
-            for (int rank = 0; rank < plotCount; rank++) {
+            for (int rank = 0; rank < plotCount && rank < CELLS; rank++) {
                 if (owners[rank] == owner) {
                     owned++;
                 }
@@ -846,7 +846,7 @@ public final class LandQuarters {
 
         int areaOf(int owner) {
             int area = 0;
-            for (int rank = 0; rank < plotCount; rank++) {
+            for (int rank = 0; rank < plotCount && rank < CELLS; rank++) {
                 if (owners[rank] == owner) {
                     area += sizes[rank] * sizes[rank];
                 }
@@ -856,7 +856,7 @@ public final class LandQuarters {
 
         int fenceOf(int owner) {
             int length = 0;
-            for (int rank = 0; rank < plotCount; rank++) {
+            for (int rank = 0; rank < plotCount && rank < CELLS; rank++) {
                 if (owners[rank] == owner) {
                     length += fenceRound(cornerXs[rank], cornerYs[rank], sizes[rank], owner);
                 }
@@ -883,7 +883,7 @@ public final class LandQuarters {
         int firstLargest(int owner) {
             int found = NONE;
             int largest = 0;
-            for (int rank = 0; rank < plotCount; rank++) {
+            for (int rank = 0; rank < plotCount && rank < CELLS; rank++) {
                 if (owners[rank] == owner && sizes[rank] > largest) {
                     largest = sizes[rank];
                     found = rank;
@@ -895,7 +895,7 @@ public final class LandQuarters {
         int lastSmallest(int owner) {
             int found = NONE;
             int smallest = SIDE;
-            for (int rank = 0; rank < plotCount; rank++) {
+            for (int rank = 0; rank < plotCount && rank < CELLS; rank++) {
                 if (owners[rank] == owner && sizes[rank] <= smallest) {
                     smallest = sizes[rank];
                     found = rank;

@@ -134,6 +134,27 @@ public final class OwnersEdgesTest {
         Checks.due("plots", 256, land.plots());
     }
 
+    /** What was person 1's last plot had the rank that comes after the last one then. */
+    private static void plotsThatWere() {
+        Checks.sentence("Returns the length of all fences of an owner, told by the sides of the owner's plots.");
+        LandQuarters land = new LandQuarters();
+        land.grant(12, 4, 4, 1);
+        land.grant(8, 8, 4, 1);
+        land.grant(12, 12, 4, 1);
+        land.grant(8, 8, 8, 3);
+        Checks.due("plotOwner(4)", 1, land.plotOwner(4));
+        land.grant(8, 0, 8, 2);
+        Checks.due("plots", 4, land.plots());
+        fences("of no land, which was a plot before", land, 1, 0);
+        area(land, 1, 0);
+        Checks.due("plotsOf", 0, land.plotsOf(1));
+        Checks.due("largestPlotOf", LandQuarters.NONE, land.largestPlotOf(1));
+        Checks.due("firstToLose", LandQuarters.NONE, land.firstToLose(1));
+        Checks.due("lossesIfTaxed", 0, land.lossesIfTaxed(1));
+        fences("of the quarter that the last of them was in", land, 3, 16);
+        area(land, 3, 64);
+    }
+
     private static void largestPlots() {
         Checks.sentence("Returns its rank, of several the first one; NONE if the owner has no plot.");
         LandQuarters land = new LandQuarters();
@@ -306,6 +327,7 @@ public final class OwnersEdgesTest {
         fencesBetweenTheSame();
         areas();
         numbersOfPlots();
+        plotsThatWere();
         largestPlots();
         firstPlotsToLose();
         neighbours();

@@ -117,10 +117,9 @@ public final class RulesTest {
     public static void main(String[] args) throws IOException {
         face();
         classes();
-        if (args.length == 1) {
+        due("the first argument is the path of LandQuarters.java", true, args.length > 0);
+        if (args.length > 0) {
             source(new String(Files.readAllBytes(Path.of(args[0])), StandardCharsets.ISO_8859_1));
-        } else {
-            due("the arguments: the path of LandQuarters.java", 1, args.length);
         }
         System.out.println(wrong == 0 ? "all rules are kept" : wrong + " rules are not kept");
         if (wrong != 0) {
